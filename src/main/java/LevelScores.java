@@ -583,10 +583,9 @@ public final class LevelScores {
             return parseWord("medium/") && parseNumber(answer, 2) && parseWord("soft");
         }
 
+        /** The next byte is a [. */
         private boolean parseBent(Score answer) {
-            if (!parseWord("[")) {
-                return false;
-            }
+            place++;
             int hard = parseList(answer, 0);
             if (hard == BROKEN || !parseWord("]hard/[")) {
                 return false;

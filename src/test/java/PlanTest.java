@@ -17,6 +17,7 @@ public final class PlanTest {
         promise21Kept();
         promise22Many();
         promise23Drop();
+        widestPlan();
         CHECKS.end();
     }
 
@@ -101,10 +102,11 @@ public final class PlanTest {
         CHECKS.due("total after wraps", total(x, LevelScores.NONE), "1 " + MOST);
         CHECKS.due("least once beside most", x.count(2, 1), 0);
         CHECKS.due("total of most and least", total(x, LevelScores.NONE), "2 -1");
+        CHECKS.due("a part beyond, though the sum is not", x.count(0, 2), LevelScores.WRAP);
+        CHECKS.due("a part below, though the sum is not", x.count(2, 2), LevelScores.WRAP);
         // Between, in the rules' order, the sum is beyond; the exact one is not.
         CHECKS.due("a million beside most and least", x.count(1, 1000000), 0);
         CHECKS.due("total of all", total(x, LevelScores.NONE), "1000002 999999");
-        CHECKS.due("a part that is beyond, though no sum need be", x.count(0, 2), LevelScores.WRAP);
         CHECKS.due("without least the sum would be beyond", x.count(2, 0), LevelScores.WRAP);
         CHECKS.due("its count is what it was", x.count(2, 1), 1);
         CHECKS.due("count(1, 0)", x.count(1, 0), 1000000);
@@ -158,6 +160,10 @@ public final class PlanTest {
         CHECKS.due("total of most and least", total(x, LevelScores.NONE), "-1");
         CHECKS.due("most beside most", x.weight(0, most), LevelScores.WRAP);
         CHECKS.due("least beside least", x.weight(1, least), LevelScores.WRAP);
+        int half = Checks.simple(x, 1L << 62);
+        CHECKS.due("a half beside most", x.weight(0, half), LevelScores.WRAP);
+        CHECKS.due("minus a half twice", x.weight(0, Checks.simple(x, -(1L << 62))) + x.count(0, 2), 2);
+        CHECKS.due("a part beyond, though the sum is not", x.weight(0, Checks.simple(x, -(1L << 62) - 1)), LevelScores.WRAP);
         CHECKS.due("parts after wraps", total(x, 0) + " " + total(x, 1), LEAST + " " + MOST);
     }
 
@@ -321,5 +327,29 @@ public final class PlanTest {
         CHECKS.due("drop of the first", x.drop(), 0);
         CHECKS.due("drop of none again", x.drop(), LevelScores.UNKNOWN);
         CHECKS.due("many(0) after all drops", x.many(0), 0);
+    }
+
+    /** Promises 14 to 21 with all twelve levels and all twelve rules. */
+    private static void widestPlan() {
+        LevelScores x = new LevelScores();
+        int a = Checks.bent(x, 6, 1, 2, 3, 4, 5, 6, 7, 8, 9, 10, 11, 12);
+        x.plan(a);
+        for (int rule = 0; rule < 12; rule++) {
+            CHECKS.due("rule number " + rule + " of the widest", x.rule(a), rule);
+            CHECKS.due("count of rule " + rule + " of the widest", x.count(rule, rule), 0);
+        }
+        CHECKS.due("total of the widest", total(x, LevelScores.NONE), "66 132 198 264 330 396 462 528 594 660 726 792");
+        CHECKS.due("part of the widest", total(x, 11), "11 22 33 44 55 66 77 88 99 110 121 132");
+        CHECKS.due("safe of the widest", x.safe(1000000), 1);
+        for (int i = 0; i < 5; i++) {
+            x.set(a, 11, 12 + i);
+            CHECKS.due("keep of the widest, call " + i, x.keep(a), 0);
+        }
+        CHECKS.due("kept of the widest", Checks.levels(x, x.kept(4)), "1 2 3 4 5 6 7 8 9 10 11 12");
+        x.set(a, 11, Long.MAX_VALUE);
+        CHECKS.due("weight of the widest, eleven times", x.weight(11, a), LevelScores.WRAP);
+        CHECKS.due("weight of the widest, no time", x.weight(0, a), 1);
+        CHECKS.due("count of the widest", x.count(0, 1), LevelScores.WRAP);
+        CHECKS.due("safe of the widest with a last level too high", x.safe(1), 0);
     }
 }

@@ -18,6 +18,7 @@ public final class ScoresTest {
         promise8TimesWraps();
         promise8TimesFails();
         promise9Order();
+        widestScores();
         CHECKS.end();
     }
 
@@ -58,7 +59,9 @@ public final class ScoresTest {
         CHECKS.due("levels of BENT 6 6", Checks.levels(x, 3), "0 0 0 0 0 0 0 0 0 0 0 0");
         CHECKS.due("levels of BENT 6 0", Checks.levels(x, 4), "0 0 0 0 0 0");
         CHECKS.due("levels of BENT 0 6", Checks.levels(x, 5), "0 0 0 0 0 0");
-        x.set(5, 5, 9);
+        for (int level = 0; level < 6; level++) {
+            x.set(5, level, 9);
+        }
         x.drop();
         CHECKS.due("make in a place used before", x.make(3, 0, 6), 5);
         CHECKS.due("levels of one in a place used before", Checks.levels(x, 5), "0 0 0 0 0 0");
@@ -152,15 +155,15 @@ public final class ScoresTest {
     private static void promise7Act() {
         LevelScores x = new LevelScores();
         int a = Checks.bent(x, 2, 1, -5, 9);
-        int b = Checks.bent(x, 2, 1, 4, -9);
-        String[] due = {"2 -1 0", "0 -9 18", "1 4 -9", "1 -5 9", "1 4 9", "1 -5 -9"};
+        int b = Checks.bent(x, 2, 3, 4, -9);
+        String[] due = {"4 -1 0", "-2 -9 18", "3 4 -9", "1 -5 9", "3 4 9", "1 -5 -9"};
         for (int act = 0; act < due.length; act++) {
             CHECKS.due("act(" + act + ")", x.act(act, a, b), 2 + act);
             CHECKS.due("levels of act " + act, Checks.levels(x, 2 + act), due[act]);
             CHECKS.due("hard levels of act " + act, x.told(2 + act, 1), 2);
             CHECKS.due("shape of act " + act, x.told(2 + act, 0), 3);
         }
-        CHECKS.due("levels of the greater one, the other way round", Checks.levels(x, x.act(2, b, a)), "1 4 -9");
+        CHECKS.due("levels of the greater one, the other way round", Checks.levels(x, x.act(2, b, a)), "3 4 -9");
         CHECKS.due("levels of the lesser one, the other way round", Checks.levels(x, x.act(3, b, a)), "1 -5 9");
         CHECKS.due("levels of one less itself", Checks.levels(x, x.act(1, a, a)), "0 0 0");
         CHECKS.due("levels of the greater of one", Checks.levels(x, x.act(2, a, a)), "1 -5 9");
@@ -287,5 +290,26 @@ public final class ScoresTest {
         CHECKS.due("order of NOTHING and NOTHING", x.order(nothing, nothing), LevelScores.NULL);
         CHECKS.due("order of NOTHING and no score", x.order(nothing, 59), LevelScores.UNKNOWN);
         CHECKS.due("order of no score and one", x.order(-1, a), LevelScores.UNKNOWN);
+    }
+
+    /** Promises 4 to 9 with all twelve levels. */
+    private static void widestScores() {
+        LevelScores x = new LevelScores();
+        int a = Checks.bent(x, 6, 1, 2, 3, 4, 5, 6, 7, 8, 9, 10, 11, 12);
+        int b = Checks.bent(x, 6, 1, 2, 3, 4, 5, 6, 7, 8, 9, 10, 11, 13);
+        CHECKS.due("order of the widest", x.order(a, b), 1);
+        CHECKS.due("order of the widest and itself", x.order(a, a), 2);
+        CHECKS.due("the widest is feasible", x.told(a, 3), 1);
+        CHECKS.due("sum of the widest", Checks.levels(x, x.act(0, a, b)), "2 4 6 8 10 12 14 16 18 20 22 25");
+        CHECKS.due("difference of the widest", Checks.levels(x, x.act(1, b, a)), "0 0 0 0 0 0 0 0 0 0 0 1");
+        CHECKS.due("the greater of the widest", x.order(x.act(2, a, b), b), 2);
+        CHECKS.due("the lesser of the widest", x.order(x.act(3, a, b), a), 2);
+        CHECKS.due("the greater levels of the widest", x.order(x.act(4, a, b), b), 2);
+        CHECKS.due("the lesser levels of the widest", x.order(x.act(5, a, b), a), 2);
+        CHECKS.due("the widest times 1 / 2", Checks.levels(x, x.times(a, 1, 2)), "0 1 1 2 2 3 3 4 4 5 5 6");
+        CHECKS.due("set(0, 12, 1) of the widest", x.set(a, 12, 1), LevelScores.INDEX);
+        CHECKS.due("at(0, 12) of the widest", Checks.at(x, a, 12), "IndexOutOfBoundsException");
+        x.set(b, 5, -1);
+        CHECKS.due("the widest with the last hard level below 0", x.told(b, 3), 0);
     }
 }

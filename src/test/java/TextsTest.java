@@ -10,6 +10,7 @@ public final class TextsTest {
         promise11Numbers();
         promise11Words();
         promise11Brackets();
+        promise11Shorter();
         promise11Full();
         promise12Print();
         promise12PrintFails();
@@ -150,6 +151,20 @@ public final class TextsTest {
         dueRead("[1/2/3/4/5/6", -112);
         String six = LEAST + "/" + LEAST + "/" + LEAST + "/" + LEAST + "/" + LEAST + "/" + LEAST;
         dueRead("[" + six + "]hard/[" + six + "]soft", 0);
+    }
+
+    /** What stood on the tape before does not count. */
+    private static void promise11Shorter() {
+        LevelScores x = new LevelScores();
+        Checks.read(x, "123");
+        CHECKS.due("read of a shorter number", Checks.read(x, "12"), 1);
+        CHECKS.due("its level", Checks.levels(x, 1), "12");
+        Checks.read(x, "1hard/2soft");
+        CHECKS.due("read of a text begun", Checks.read(x, "1hard/2"), -107);
+        CHECKS.due("read of another text begun", Checks.read(x, "1hard/"), -106);
+        Checks.read(x, "[1/2]hard/[3]soft");
+        CHECKS.due("read of a bracket begun", Checks.read(x, "[1"), -102);
+        CHECKS.due("read of an empty tape", x.read(), -100);
     }
 
     private static void promise11Full() {

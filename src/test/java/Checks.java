@@ -4,12 +4,18 @@ import java.util.NoSuchElementException;
 final class Checks {
     private int asked = 0;
     private int wrong = 0;
+    private String sentence = "";
+
+    /** The words of the document that the answers from here on are held against. */
+    void sentence(String words) {
+        sentence = "(" + words + ") ";
+    }
 
     void due(String call, long got, long want) {
         asked++;
         if (got != want) {
             wrong++;
-            System.out.println(call + " answered " + got + ", due is " + want);
+            System.out.println(sentence + call + " answered " + got + ", due is " + want);
         }
     }
 
@@ -17,7 +23,7 @@ final class Checks {
         asked++;
         if (!got.equals(want)) {
             wrong++;
-            System.out.println(call + " answered " + got + ", due is " + want);
+            System.out.println(sentence + call + " answered " + got + ", due is " + want);
         }
     }
 
@@ -39,7 +45,8 @@ final class Checks {
     /** All levels of a score, with blanks between. */
     static String levels(LevelScores x, int score) {
         StringBuilder all = new StringBuilder();
-        for (int level = 0; level < x.told(score, 2); level++) {
+        int size = x.told(score, 2);
+        for (int level = 0; level < size; level++) {
             all.append(level == 0 ? "" : " ").append(at(x, score, level));
         }
         return all.toString();
@@ -70,6 +77,16 @@ final class Checks {
         return filled(x, x.make(3, h, levels.length - h), levels);
     }
 
+    /** The levels of a score that a call has just made, which is dropped again. */
+    static String levelsDropped(LevelScores x, int score) {
+        if (score < 0) {
+            return "failure " + score;
+        }
+        String levels = levels(x, score);
+        x.drop();
+        return levels;
+    }
+
     /** Numbers with nothing, up to the limit of 60. */
     static void fill(LevelScores x) {
         for (int i = x.many(0); i < 60; i++) {
@@ -92,7 +109,8 @@ final class Checks {
     /** All bytes of OUT. */
     static String out(LevelScores x) {
         StringBuilder all = new StringBuilder();
-        for (int i = 0; i < x.many(4); i++) {
+        int length = x.many(4);
+        for (int i = 0; i < length; i++) {
             all.append((char) x.out(i));
         }
         return all.toString();

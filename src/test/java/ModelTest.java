@@ -3,7 +3,10 @@ import java.util.Random;
 
 /** All promises at once: runs of up to 512 calls, the same ones each time, on the program and on the model. */
 public final class ModelTest {
-    private static final int RUNS = 1500, CALLS = 512;
+    /** The document promises nothing after an object's 512th call, so nothing is asked then. */
+    private static final int RUNS = 3000, CALLS = 512;
+    /** The levels -1 .. 12 of a number, its shape and its hard levels. */
+    private static final int CALLS_TO_TELL = 16;
     private static final long[] EDGES = {
         Long.MIN_VALUE, Long.MIN_VALUE + 1, Long.MAX_VALUE, Long.MAX_VALUE - 1, Integer.MIN_VALUE, Integer.MAX_VALUE,
         1L << 32, (1L << 32) - 1, -(1L << 32), 1L << 31, Long.MAX_VALUE / 1000000, Long.MIN_VALUE / 1000000, Long.MAX_VALUE / 12, 0, 1, -1, 10, -10
@@ -20,6 +23,7 @@ public final class ModelTest {
     private int shape;
     private int h;
     private int s;
+    private int calls;
 
     public static void main(String[] args) {
         ModelTest test = new ModelTest();
@@ -32,44 +36,57 @@ public final class ModelTest {
     private void run(int run) {
         x = new LevelScores();
         model = new Model();
+        calls = 0;
         shape = random.nextInt(4);
         h = random.nextInt(7);
         s = h == 0 ? 1 + random.nextInt(6) : random.nextInt(7);
         // Some runs drop often, so that there is room; others stay full.
         int drops = random.nextInt(4);
-        for (int calls = 0; calls < CALLS; ) {
-            calls += random.nextInt(4) < drops && x.many(0) > 20 ? drop(run) : call(run);
+        int end = CALLS - random.nextInt(400);
+        while (calls < end) {
+            if (random.nextInt(4) < drops && model.many(0) > 20) {
+                drop("run " + run + ": ");
+            } else {
+                call("run " + run + ": ");
+            }
         }
-        compareAll(run);
+        compareAll("end of run " + run + ": ");
     }
 
-    private int drop(int run) {
-        checks.due("run " + run + ": drop()", x.drop(), model.drop());
-        return 1;
+    private int callsLeft() {
+        return CALLS - calls;
     }
 
-    /** How many calls were made. */
-    private int call(int run) {
-        String in = "run " + run + ": ";
+    /** One call's answer. */
+    private void due(String call, long got, long want) {
+        calls++;
+        checks.due(call, got, want);
+    }
+
+    private void drop(String in) {
+        due(in + "drop()", x.drop(), model.drop());
+    }
+
+    private void call(String in) {
         switch (random.nextInt(24)) {
-            case 0: case 1: return make(in);
-            case 2: case 3: case 4: return set(in);
-            case 5: return at(in);
-            case 6: return told(in);
-            case 7: case 8: return act(in);
-            case 9: return times(in);
-            case 10: return order(in);
-            case 11: case 12: return text(in);
-            case 13: return print(in);
-            case 14: return plan(in);
-            case 15: return rule(in);
-            case 16: case 17: return count(in);
-            case 18: return weight(in);
-            case 19: return total(in);
-            case 20: return safe(in);
-            case 21: return keep(in);
-            case 22: return kept(in);
-            default: return manyOrNothing(in);
+            case 0: case 1: make(in); break;
+            case 2: case 3: case 4: set(in); break;
+            case 5: at(in); break;
+            case 6: told(in); break;
+            case 7: case 8: act(in); break;
+            case 9: times(in); break;
+            case 10: order(in); break;
+            case 11: text(in); break;
+            case 12: print(in); break;
+            case 13: plan(in); break;
+            case 14: case 15: rule(in); break;
+            case 16: case 17: count(in); break;
+            case 18: weight(in); break;
+            case 19: total(in); break;
+            case 20: safe(in); break;
+            case 21: keep(in); break;
+            case 22: kept(in); break;
+            default: manyOrNothing(in); break;
         }
     }
 
@@ -79,11 +96,11 @@ public final class ModelTest {
     }
 
     private int score() {
-        return number(x.many(0));
+        return number(model.many(0));
     }
 
     private int rule() {
-        return number(x.many(1));
+        return number(model.many(1));
     }
 
     private long level() {
@@ -98,28 +115,25 @@ public final class ModelTest {
         return values[random.nextInt(values.length)];
     }
 
-    private int make(String in) {
+    private void make(String in) {
         boolean usual = random.nextInt(4) != 0;
         int shape = usual ? this.shape : random.nextInt(7) - 1;
         int h = usual ? this.h : random.nextInt(10) - 2;
         int s = usual ? this.s : random.nextInt(10) - 2;
-        checks.due(in + "make(" + shape + ", " + h + ", " + s + ")", x.make(shape, h, s), model.make(shape, h, s));
-        return 1;
+        due(in + "make(" + shape + ", " + h + ", " + s + ")", x.make(shape, h, s), model.make(shape, h, s));
     }
 
-    private int set(String in) {
+    private void set(String in) {
         int score = score();
-        int level = number(Math.max(x.told(score, 2), 0));
+        int level = number(Math.max(model.told(score, 2), 0));
         long v = level();
-        checks.due(in + "set(" + score + ", " + level + ", " + v + ")", x.set(score, level, v), model.set(score, level, v));
-        return 2;
+        due(in + "set(" + score + ", " + level + ", " + v + ")", x.set(score, level, v), model.set(score, level, v));
     }
 
-    private int at(String in) {
+    private void at(String in) {
         int score = score();
         int level = random.nextInt(15) - 1;
-        checks.due(in + "at(" + score + ", " + level + ")", programAt(score, level), model.at(score, level));
-        return 1;
+        due(in + "at(" + score + ", " + level + ")", programAt(score, level), model.at(score, level));
     }
 
     private long programAt(int score, int level) {
@@ -132,50 +146,48 @@ public final class ModelTest {
         }
     }
 
-    private int told(String in) {
+    private void told(String in) {
         int score = score();
         int what = random.nextInt(6) - 1;
-        checks.due(in + "told(" + score + ", " + what + ")", x.told(score, what), model.told(score, what));
-        return 1;
+        due(in + "told(" + score + ", " + what + ")", x.told(score, what), model.told(score, what));
     }
 
-    private int act(String in) {
+    private void act(String in) {
         int act = random.nextInt(8) - 1;
         int a = score();
         int b = score();
-        checks.due(in + "act(" + act + ", " + a + ", " + b + ")", x.act(act, a, b), model.act(act, a, b));
-        return 1;
+        due(in + "act(" + act + ", " + a + ", " + b + ")", x.act(act, a, b), model.act(act, a, b));
     }
 
-    private int times(String in) {
+    private void times(String in) {
         int score = score();
         int up = random.nextBoolean() ? of(FRACTIONS) : random.nextInt();
         int down = random.nextBoolean() ? of(FRACTIONS) : random.nextInt();
-        checks.due(in + "times(" + score + ", " + up + ", " + down + ")", x.times(score, up, down), model.times(score, up, down));
-        return 1;
+        due(in + "times(" + score + ", " + up + ", " + down + ")", x.times(score, up, down), model.times(score, up, down));
     }
 
-    private int order(String in) {
+    private void order(String in) {
         int a = score();
         int b = score();
-        checks.due(in + "order(" + a + ", " + b + ")", x.order(a, b), model.order(a, b));
-        return 1;
+        due(in + "order(" + a + ", " + b + ")", x.order(a, b), model.order(a, b));
     }
 
-    private int text(String in) {
+    private void text(String in) {
         String text = spoilt(textOf());
+        if (text.length() + 2 > callsLeft()) {
+            return;
+        }
         for (int i = 0; i < text.length(); i++) {
             int c = text.charAt(i);
-            checks.due(in + "put(" + c + ")", x.put(c), model.put(c));
+            due(in + "put(" + c + ")", x.put(c), model.put(c));
         }
         if (random.nextInt(40) == 0) {
             int c = random.nextBoolean() ? -1 - random.nextInt(3) : 128 + random.nextInt(3);
-            checks.due(in + "put(" + c + ")", x.put(c), model.put(c));
+            due(in + "put(" + c + ")", x.put(c), model.put(c));
         }
         if (random.nextInt(20) != 0) {
-            checks.due(in + "read() of " + text, x.read(), model.read());
+            due(in + "read() of " + text, x.read(), model.read());
         }
-        return Math.min(text.length(), 60) + 2;
     }
 
     private String textOf() {
@@ -207,113 +219,122 @@ public final class ModelTest {
         }
     }
 
-    private int print(String in) {
+    private void print(String in) {
         int score = score();
-        checks.due(in + "print(" + score + ")", x.print(score), model.print(score));
-        compareOut(in);
-        return 10;
+        due(in + "print(" + score + ")", x.print(score), model.print(score));
+        compareOut(in, random.nextInt(model.many(4) + 1), Math.min(callsLeft(), 6));
     }
 
-    private void compareOut(String in) {
-        for (int i = -1; i <= Math.max(x.many(4), model.many(4)); i++) {
-            checks.due(in + "out(" + i + ")", x.out(i), model.out(i));
+    /** Some bytes from a place on, and what is ahead of the first and behind the last. */
+    private void compareOut(String in, int from, int most) {
+        int places = model.many(4) + 2;
+        for (int n = 0; n < Math.min(places, most); n++) {
+            int i = (from + n) % places - 1;
+            due(in + "out(" + i + ")", x.out(i), model.out(i));
         }
     }
 
-    private int plan(String in) {
+    private void plan(String in) {
         int score = score();
         if (random.nextInt(3) == 0) {
-            checks.due(in + "plan(" + score + ")", x.plan(score), model.plan(score));
+            due(in + "plan(" + score + ")", x.plan(score), model.plan(score));
         }
-        return 1;
     }
 
-    private int rule(String in) {
+    private void rule(String in) {
         int score = score();
-        checks.due(in + "rule(" + score + ")", x.rule(score), model.rule(score));
-        return 1;
+        due(in + "rule(" + score + ")", x.rule(score), model.rule(score));
     }
 
-    private int count(String in) {
+    private void count(String in) {
         int rule = rule();
         int n = random.nextBoolean() ? of(COUNTS) : random.nextInt(5);
-        checks.due(in + "count(" + rule + ", " + n + ")", x.count(rule, n), model.count(rule, n));
-        return 1;
+        due(in + "count(" + rule + ", " + n + ")", x.count(rule, n), model.count(rule, n));
     }
 
-    private int weight(String in) {
+    private void weight(String in) {
         int rule = rule();
         int score = score();
-        checks.due(in + "weight(" + rule + ", " + score + ")", x.weight(rule, score), model.weight(rule, score));
-        return 1;
+        due(in + "weight(" + rule + ", " + score + ")", x.weight(rule, score), model.weight(rule, score));
     }
 
-    private int total(String in) {
+    private void total(String in) {
         int rule = random.nextBoolean() ? LevelScores.NONE : rule();
-        checks.due(in + "total(" + rule + ")", x.total(rule), model.total(rule));
-        return 1;
+        due(in + "total(" + rule + ")", x.total(rule), model.total(rule));
     }
 
-    private int safe(String in) {
+    private void safe(String in) {
         // The model looks at all choices of rules, which is dear when there are many.
-        if (x.many(1) > 8 && random.nextInt(20) != 0) {
-            return 0;
+        if (model.many(1) > 8 && random.nextInt(20) != 0) {
+            return;
         }
         int n = random.nextBoolean() ? of(COUNTS) : random.nextInt(1000001);
-        checks.due(in + "safe(" + n + ")", x.safe(n), model.safe(n));
-        return 1;
+        due(in + "safe(" + n + ")", x.safe(n), model.safe(n));
     }
 
-    private int keep(String in) {
+    private void keep(String in) {
         int score = score();
-        checks.due(in + "keep(" + score + ")", x.keep(score), model.keep(score));
-        return 1;
+        due(in + "keep(" + score + ")", x.keep(score), model.keep(score));
     }
 
-    private int kept(String in) {
-        int k = number(x.many(2));
-        checks.due(in + "kept(" + k + ")", x.kept(k), model.kept(k));
-        return 1;
+    private void kept(String in) {
+        int k = number(model.many(2));
+        due(in + "kept(" + k + ")", x.kept(k), model.kept(k));
     }
 
-    private int manyOrNothing(String in) {
+    private void manyOrNothing(String in) {
         int what = random.nextInt(7) - 1;
-        checks.due(in + "many(" + what + ")", x.many(what), model.many(what));
-        if (random.nextInt(4) == 0) {
-            checks.due(in + "nothing()", x.nothing(), model.nothing());
-        }
-        return 2;
-    }
-
-    /** All that can be seen of both. */
-    private void compareAll(int run) {
-        String in = "end of run " + run + ": ";
-        for (int what = 0; what < 5; what++) {
-            checks.due(in + "many(" + what + ")", x.many(what), model.many(what));
-        }
-        for (int score = 0; score < x.many(0); score++) {
-            for (int level = -1; level < 13; level++) {
-                checks.due(in + "at(" + score + ", " + level + ")", programAt(score, level), model.at(score, level));
-            }
-            for (int what = 0; what < 4; what++) {
-                checks.due(in + "told(" + score + ", " + what + ")", x.told(score, what), model.told(score, what));
-            }
-        }
-        compareOut(in);
-        checks.due(in + "drop()", x.drop(), model.drop());
-        for (int rule = -1; rule < x.many(1); rule++) {
-            compareAsScore(in + "total(" + rule + ")", x.total(rule), model.total(rule));
-        }
-        for (int k = 0; k < x.many(2); k++) {
-            compareAsScore(in + "kept(" + k + ")", x.kept(k), model.kept(k));
+        due(in + "many(" + what + ")", x.many(what), model.many(what));
+        if (random.nextInt(4) == 0 && callsLeft() > 0) {
+            due(in + "nothing()", x.nothing(), model.nothing());
         }
     }
 
-    private void compareAsScore(String call, int got, int want) {
-        checks.due(call, got, want);
-        for (int level = 0; level < 13; level++) {
-            checks.due(call + " at level " + level, programAt(got, level), model.at(want, level));
+    /** As much of what can be seen of both as the rest of the calls allows. */
+    private void compareAll(String in) {
+        for (int what = 0; what < 5 && callsLeft() > 0; what++) {
+            due(in + "many(" + what + ")", x.many(what), model.many(what));
         }
-        checks.due(call + " dropped", x.drop(), model.drop());
+        int first = random.nextInt(3);
+        for (int i = 0; i < 3; i++) {
+            switch ((first + i) % 3) {
+                case 0: compareScores(in); break;
+                case 1: compareOut(in, 0, callsLeft()); break;
+                default: comparePlan(in); break;
+            }
+        }
+    }
+
+    private void compareScores(String in) {
+        int numbers = model.many(0);
+        int first = random.nextInt(numbers + 1);
+        for (int i = 0; i < numbers && callsLeft() >= CALLS_TO_TELL; i++) {
+            compareLevels(in, (first + i) % numbers);
+        }
+    }
+
+    private void compareLevels(String in, int score) {
+        for (int level = -1; level < 13; level++) {
+            due(in + "at(" + score + ", " + level + ")", programAt(score, level), model.at(score, level));
+        }
+        for (int what = 0; what < 2; what++) {
+            due(in + "told(" + score + ", " + what + ")", x.told(score, what), model.told(score, what));
+        }
+    }
+
+    private void comparePlan(String in) {
+        if (callsLeft() > 0) {
+            drop(in);
+        }
+        for (int rule = -1; rule < model.many(1) && callsLeft() >= CALLS_TO_TELL + 2; rule++) {
+            due(in + "total(" + rule + ")", x.total(rule), model.total(rule));
+            compareLevels(in + "total(" + rule + "): ", model.many(0) - 1);
+            drop(in);
+        }
+        for (int k = 0; k < model.many(2) && callsLeft() >= CALLS_TO_TELL + 2; k++) {
+            due(in + "kept(" + k + ")", x.kept(k), model.kept(k));
+            compareLevels(in + "kept(" + k + "): ", model.many(0) - 1);
+            drop(in);
+        }
     }
 }

@@ -22,10 +22,7 @@ public final class PlanTest {
     }
 
     private static String total(LevelScores x, int rule) {
-        int score = x.total(rule);
-        String levels = Checks.levels(x, score);
-        x.drop();
-        return levels;
+        return Checks.levelsDropped(x, x.total(rule));
     }
 
     private static void promise14Plan() {
